@@ -17,13 +17,13 @@ public final class SignCharts {
     private static final int LEAST_TICKS = 2, MOST_TICKS = 20;
     // Every scale lies within -LIMIT .. LIMIT, so the last step has 0 alone as a multiple on it.
     private static final int LAST_STEP = 2000000;
-    private static final int[] STEPS = {
+    private static final int[] TICK_STEPS = {
         1, 2, 5, 10, 20, 25, 50, 100, 200, 250, 500, 1000, 2000, 2500, 5000, 10000, 20000, 25000,
         50000, 100000, 200000, 250000, 500000, 1000000, 2000000};
 
     private static final int MOST_SERIES = 6, MOST_POINTS = 24;
     private static final int MARK = 0, LAYER = 1, SIGN = 2;
-    private static final int SPOTS = 0, LINE = 1, STEPS_MARK = 2, BARS = 3, RANGES = 4;
+    private static final int SPOTS = 0, LINE = 1, STEPS = 2, BARS = 3, RANGES = 4;
     private static final int LAST_LAYER = 9;
     private static final int LEAST_SIGN = 33, MOST_SIGN = 126;
     private static final int BLANK_SIGN = 32, BAR_SIGN = 9600, DOTS_SIGN = 10240, LABEL_SIGN = 8192;
@@ -174,16 +174,16 @@ public final class SignCharts {
     }
 
     public int about(int series, int point, int what) {
-        Series told = seriesOf(series);
-        if (told == null || !told.isPoint(point)) {
+        Series asked = seriesOf(series);
+        if (asked == null || !asked.isPoint(point)) {
             return NO;
         }
         switch (what) {
-            case 0: return told.x[point];
-            case 1: return told.y[point];
-            case 2: return told.e[point];
-            case 3: return told.isSeen(point) ? told.dotAcross(point) : NO;
-            case 4: return told.isSeen(point) ? told.dotUpwards(point) : NO;
+            case 0: return asked.x[point];
+            case 1: return asked.y[point];
+            case 2: return asked.e[point];
+            case 3: return asked.isSeen(point) ? asked.dotAcross(point) : NO;
+            case 4: return asked.isSeen(point) ? asked.dotUpwards(point) : NO;
             default: return NO;
         }
     }
@@ -516,7 +516,7 @@ public final class SignCharts {
         }
 
         int stepFor(int m) {
-            for (int step : STEPS) {
+            for (int step : TICK_STEPS) {
                 if (ticksBelowGap(step) + ticksAboveGap(step) <= m) {
                     return step;
                 }
@@ -733,7 +733,7 @@ public final class SignCharts {
         }
 
         void removeLatest() {
-            size--;
+            size = Math.max(0, size - 1);
             stale = true;
         }
 
@@ -869,7 +869,7 @@ public final class SignCharts {
                 case LINE:
                     sheet.line(beforeX, beforeY, px, py, i);
                     break;
-                case STEPS_MARK:
+                case STEPS:
                     sheet.line(beforeX, beforeY, px, beforeY, i);
                     sheet.line(px, beforeY, px, py, i);
                     break;
