@@ -297,6 +297,10 @@ public final class CanvasScalesTest {
         for (int k = 0; k < fives.length; k++) {
             Due.is("REVERSED tick(0, 5, " + k + ")", c.tick(0, 5, k), fives[k]);
         }
+        c.scale(0, 0, 1, 99);
+        Due.is("tick(0, 4, 0) of 1 .. 99", c.tick(0, 4, 0), 20);
+        Due.is("tick(0, 4, 3) of 1 .. 99", c.tick(0, 4, 3), 80);
+        Due.is("tick(0, 4, 4) of 1 .. 99", c.tick(0, 4, 4), NO);
         c.scale(0, 0, -100, 100);
         c.cut(0, -90, 95);
         int[] cut = {-100, -95, -90, 95, 100, NO};

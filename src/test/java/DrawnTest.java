@@ -9,6 +9,7 @@ public final class DrawnTest {
         spots();
         line();
         lineDown();
+        lineFarFromTheCorner();
         lineLinks();
         steps();
         bars();
@@ -104,6 +105,21 @@ public final class DrawnTest {
         Due.is("half way down, at(1, 1)", c.at(1, 1), 10240 + 64);
         c.point(0, 2, 7, 0);
         Due.is("straight up, at(1, 0)", c.at(1, 0), 10240 + 1 + 2 + 4 + 64);
+    }
+
+    private static void lineFarFromTheCorner() {
+        SignCharts c = dots(1);
+        c.point(0, 3, 7, 0);
+        c.point(0, 7, 6, 0);
+        // n 4; y is 7 + (-2 k + 4) / 8, rounded down: 7 7 7 6 6.
+        due("far, flat", c, new int[][] {{32, 10240 + 8, 10240 + 1 + 8, 10240 + 2 + 16},
+            {32, 32, 32, 32}});
+        c = dots(1);
+        c.point(0, 7, 3, 0);
+        c.point(0, 6, 7, 0);
+        // n 4; x is 7 + (-2 k + 4) / 8, rounded down: 7 7 7 6 6.
+        due("far, steep", c, new int[][] {{32, 32, 32, 10240 + 32 + 128 + 1 + 2},
+            {32, 32, 32, 10240 + 8}});
     }
 
     private static void lineLinks() {
@@ -318,6 +334,7 @@ public final class DrawnTest {
         c.style(0, 0, 1);
         Due.is("drop", c.at(0, 0), 10240 + 2);
         c.point(0, 2, 1, 0);
+        Due.is("before fit", c.count(0, 4), 1);
         c.fit(0);
         Due.is("fit", c.count(0, 4), 4);
         c.canvas(5, 2);
@@ -326,5 +343,33 @@ public final class DrawnTest {
         Due.is("inked()", c.inked(), 2);
         c.cut(0, 1, 8);
         Due.is("cut", c.inked(), 1);
+        eachLooksForItself();
+    }
+
+    /** Each call that tells what is drawn, right after a change. */
+    private static void eachLooksForItself() {
+        SignCharts c = dots(0);
+        long blank = c.digest();
+        c.point(0, 0, 0, 0);
+        Due.holds("digest", c.digest() != blank);
+        c.point(0, 2, 0, 0);
+        Due.is("inked", c.inked(), 2);
+        c.point(0, 4, 0, 0);
+        Due.is("at", c.at(2, 1), 42);
+        c.point(0, 6, 0, 0);
+        Due.is("shown", c.shown(3, 1), 0);
+        c.point(0, 0, 7, 0);
+        Due.is("hit", c.hit(0, 0, 0), 4);
+        c.point(0, 2, 7, 0);
+        Due.is("count", c.count(0, 4), 6);
+        c.point(0, 6, 7, 0);
+        Due.is("legend", c.legend(1, 1), 0);
+        c.drop(0);
+        Due.is("legend", c.legend(1, 1), 1);
+        c.point(0, 4, 7, 0);
+        c.point(0, 6, 7, 0);
+        Due.is("label", c.label(0, 5, 1), NONE);
+        c.drop(0);
+        Due.is("label", c.label(0, 6, 1), 0);
     }
 }

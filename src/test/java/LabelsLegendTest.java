@@ -8,6 +8,7 @@ public final class LabelsLegendTest {
         labelRefused();
         fourPlaces();
         edgesOfTheCanvas();
+        oneBeyondTheEdge();
         notOverWhatIsDrawn();
         stayWhereTheyAre();
         fullOfLabels();
@@ -103,6 +104,21 @@ public final class LabelsLegendTest {
         Due.is("below, two", c.label(0, 2, 2), NONE);
         Due.is("below, one", c.label(0, 2, 1), 3);
         placed(c, 2, 9, 3);
+    }
+
+    private static void oneBeyondTheEdge() {
+        SignCharts c = cells(10, 5);
+        spot(c, 5, 2);
+        Due.is("right, five", c.label(0, 0, 5), 1);
+        placed(c, 0, 0, 2);
+        c.canvas(10, 5);
+        Due.is("right, left, above and below, six", c.label(0, 0, 6), NONE);
+        spot(c, 4, 0);
+        Due.is("right, left, six; no row above", c.label(0, 1, 6), 3);
+        placed(c, 0, 4, 1);
+        spot(c, 7, 4);
+        Due.is("left, above, four", c.label(0, 2, 4), 1);
+        Due.is("above, four", c.label(0, 2, 4), NONE);
     }
 
     private static void notOverWhatIsDrawn() {

@@ -160,6 +160,10 @@ public final class SeriesTest {
         Due.is("labelled(3, 2)", c.labelled(3, 2), BAD);
         Due.is("shown", c.shown(c.labelled(2, 0), c.labelled(2, 1)), 12);
         Due.is("at", c.at(c.labelled(2, 0), c.labelled(2, 1)), 8194);
+        Due.is("drop(1)", c.drop(1), 1);
+        Due.is("told(1)", c.told(1), 2);
+        Due.is("labelled(0, 2)", c.labelled(0, 2), 2);
+        Due.is("labelled(1, 2)", c.labelled(1, 2), 5);
     }
 
     private static void about() {
@@ -208,6 +212,7 @@ public final class SeriesTest {
         }
         c.style(0, 0, 3);
         Due.is("count(0, 4) of BARS", c.count(0, 4), 9);
+        runsAtTheEnds();
         c.series(3, 9, 33);
         c.point(1, 10, 10, 0);
         Due.is("count(0, 4) under another", c.count(0, 4), 9);
@@ -215,6 +220,19 @@ public final class SeriesTest {
         for (int[] w : wrong) {
             Due.is("count(" + w[0] + ", " + w[1] + ")", c.count(w[0], w[1]), BAD);
         }
+    }
+
+    private static void runsAtTheEnds() {
+        SignCharts c = new SignCharts();
+        c.series(0, 0, 33);
+        c.point(0, 0, 0, 0);
+        Due.is("count(0, 2) of one POINT", c.count(0, 2), 1);
+        c.gap(0);
+        Due.is("count(0, 2) with a GAP behind", c.count(0, 2), 1);
+        c.point(0, 99, 0, 0);
+        Due.is("count(0, 2), not SEEN", c.count(0, 2), 2);
+        c.point(0, 0, 0, 0);
+        Due.is("count(0, 2), one more", c.count(0, 2), 2);
     }
 
     private static void five() {
@@ -250,6 +268,8 @@ public final class SeriesTest {
         for (int k = 0; k < 5; k++) {
             Due.is("five(0, " + k + ") of one", c.five(0, k), 8);
         }
+        Due.is("five(0, 5) of one", c.five(0, 5), NO);
+        Due.is("five(0, -1) of one", c.five(0, -1), NO);
         c.point(0, 0, 4, 0);
         int[] due = {4, 4, 4, 4, 8};
         for (int k = 0; k < 5; k++) {
@@ -259,6 +279,13 @@ public final class SeriesTest {
         c.point(0, 0, 4, 0);
         for (int k = 0; k < 5; k++) {
             Due.is("five(0, " + k + ") of 4, 4, 4, 8", c.five(0, k), due[k]);
+        }
+        c.series(0, 0, 33);
+        for (int y : new int[] {-1, 2, 0, 1, -2}) {
+            c.point(1, 0, y, 0);
+        }
+        for (int k = 0; k < 5; k++) {
+            Due.is("five(1, " + k + ") of -2 .. 2", c.five(1, k), k - 2);
         }
     }
 }
