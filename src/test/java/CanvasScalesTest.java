@@ -19,8 +19,8 @@ public final class CanvasScalesTest {
         Due.end();
     }
 
-    private static SignCharts drawnAndLabelled() {
-        SignCharts c = new SignCharts();
+    private static Chart drawnAndLabelled() {
+        Chart c = new Chart();
         c.series(1, 2, 65);
         c.point(0, 0, 0, 0);
         c.point(0, 6, 9, 0);
@@ -31,9 +31,9 @@ public final class CanvasScalesTest {
     }
 
     private static void canvas() {
-        SignCharts c = drawnAndLabelled();
+        Chart c = drawnAndLabelled();
         Due.is("told(1)", c.told(1), 1);
-        String before = Due.picture(c);
+        String before = Picture.of(c);
         int[][] wrong = {{3, 8}, {41, 8}, {20, 1}, {20, 17}, {-20, 8}, {20, -8}, {0, 0},
             {MIN, 8}, {MAX, 8}, {20, MIN}, {20, MAX}};
         for (int[] w : wrong) {
@@ -57,8 +57,8 @@ public final class CanvasScalesTest {
     }
 
     private static void scale() {
-        SignCharts c = drawnAndLabelled();
-        String before = Due.picture(c);
+        Chart c = drawnAndLabelled();
+        String before = Picture.of(c);
         int[][] wrong = {{-1, 0, 0, 1}, {2, 0, 0, 1}, {0, -1, 0, 1}, {0, 2, 0, 1}, {0, 3, 0, 1},
             {0, 0, 1, 1}, {0, 0, 2, 1}, {1, 1, -1000001, 0}, {1, 1, 0, 1000001},
             {0, 0, MIN, 0}, {0, 0, 0, MAX}, {0, 0, MIN, MAX}, {MIN, 0, 0, 1}, {MAX, 0, 0, 1}};
@@ -82,8 +82,8 @@ public final class CanvasScalesTest {
     }
 
     private static void cut() {
-        SignCharts c = drawnAndLabelled();
-        String before = Due.picture(c);
+        Chart c = drawnAndLabelled();
+        String before = Picture.of(c);
         int[][] wrong = {{-1, 3, 7}, {2, 3, 7}, {0, 0, 7}, {0, -1, 7}, {0, 3, 10}, {0, 3, 11},
             {0, 5, 5}, {0, 6, 5}, {0, MIN, 5}, {0, 5, MAX}, {0, MIN, MAX}, {1, MAX, MIN}};
         for (int[] w : wrong) {
@@ -104,15 +104,15 @@ public final class CanvasScalesTest {
     }
 
     private static void fit() {
-        SignCharts c = new SignCharts();
-        String before = Due.picture(c);
+        Chart c = new Chart();
+        String before = Picture.of(c);
         Due.refused(c, "fit(-1)", c.fit(-1), BAD, before);
         Due.refused(c, "fit(2)", c.fit(2), BAD, before);
         Due.refused(c, "fit(0) of no SERIES", c.fit(0), STATE, before);
         c.series(0, 0, 65);
         c.series(4, 0, 66);
         c.gap(1);
-        before = Due.picture(c);
+        before = Picture.of(c);
         Due.refused(c, "fit(0) of GAPS", c.fit(0), STATE, before);
         Due.refused(c, "fit(1) of GAPS", c.fit(1), STATE, before);
         c.point(1, -40, 25, 6);
@@ -134,7 +134,7 @@ public final class CanvasScalesTest {
     }
 
     private static void fitAtTheLimits() {
-        SignCharts c = new SignCharts();
+        Chart c = new Chart();
         c.series(1, 0, 65);
         c.point(0, 999999, -999990, 50);
         Due.is("fit(0)", c.fit(0), 1);
@@ -145,7 +145,7 @@ public final class CanvasScalesTest {
         Due.is("told(9)", c.told(9), -999940);
         c.drop(0);
         c.point(0, 1000000, 1000000, 0);
-        String before = Due.picture(c);
+        String before = Picture.of(c);
         Due.refused(c, "fit(0) to 1000001", c.fit(0), STATE, before);
         Due.refused(c, "fit(1) to 1000001", c.fit(1), STATE, before);
         c.point(0, -1000000, 0, 1000000);
@@ -161,7 +161,7 @@ public final class CanvasScalesTest {
     }
 
     private static void place() {
-        SignCharts c = new SignCharts();
+        Chart c = new Chart();
         // 2 a 39 + 10 by 20: 10, 88, 166, 244, 322, 400, 478, 556, 634, 712, 790 by 20.
         int[] due = {0, 4, 8, 12, 16, 20, 23, 27, 31, 35, 39};
         for (int v = 0; v <= 10; v++) {
@@ -195,7 +195,7 @@ public final class CanvasScalesTest {
     }
 
     private static void value() {
-        SignCharts c = new SignCharts();
+        Chart c = new Chart();
         int[] places = {0, 4, 8, 12, 16, 20, 23, 27, 31, 35, 39};
         for (int v = 0; v <= 10; v++) {
             Due.is("value(0, " + places[v] + ")", c.value(0, places[v]), v);
@@ -214,29 +214,38 @@ public final class CanvasScalesTest {
 
     private static void valueAgainstPlace() {
         int[][] ranges = {{0, 10}, {-7, 500}, {-1000, 1000}, {3, 4}, {-100, -17}, {0, 79}};
-        SignCharts c = new SignCharts();
         for (int[] canvas : new int[][] {{4, 2}, {20, 8}, {40, 16}}) {
-            c.canvas(canvas[0], canvas[1]);
             for (int[] r : ranges) {
                 for (int kind = 0; kind <= 2; kind++) {
+                    Chart c = new Chart();
+                    c.canvas(canvas[0], canvas[1]);
                     c.scale(0, kind % 2, r[0], r[1]);
                     if (kind == 2) {
                         c.cut(0, r[0] + (r[1] - r[0]) / 3, r[1] - (r[1] - r[0]) / 4);
                     }
-                    for (int dot = 0; dot < 2 * canvas[0]; dot++) {
-                        int least = NO;
-                        for (int v = r[1]; v >= r[0]; v--) {
-                            least = c.place(0, v) == dot ? v : least;
-                        }
-                        Due.is("value(0, " + dot + ")", c.value(0, dot), least);
-                    }
+                    leastValues(c, r[0], r[1], 2 * canvas[0]);
                 }
             }
         }
     }
 
+    private static void leastValues(Chart c, int low, int high, int dots) {
+        long[] least = new long[dots];
+        java.util.Arrays.fill(least, NO);
+        Asked asked = new Asked(c);
+        for (int v = high; v >= low; v--) {
+            long place = asked.ask("place", 0, v);
+            if (place != NONE) {
+                least[(int) place] = v;
+            }
+        }
+        for (int dot = 0; dot < dots; dot++) {
+            Due.is("value(0, " + dot + ") of " + low + " .. " + high, asked.ask("value", 0, dot), least[dot]);
+        }
+    }
+
     private static void step() {
-        SignCharts c = new SignCharts();
+        Chart c = new Chart();
         Due.is("step(0, 2)", c.step(0, 2), 10);
         Due.is("step(0, 3)", c.step(0, 3), 5);
         Due.is("step(0, 5)", c.step(0, 5), 5);
@@ -265,7 +274,7 @@ public final class CanvasScalesTest {
     }
 
     private static void stepsAreTheseAlone() {
-        SignCharts c = new SignCharts();
+        Chart c = new Chart();
         int[] due = {1, 2, 5, 10, 20, 25, 50, 100, 200, 250, 500, 1000, 2000, 2500, 5000, 10000,
             20000, 25000, 50000, 100000, 200000, 250000, 500000, 1000000, 2000000};
         for (int i = 1; i < due.length; i++) {
@@ -280,7 +289,7 @@ public final class CanvasScalesTest {
     }
 
     private static void tick() {
-        SignCharts c = new SignCharts();
+        Chart c = new Chart();
         for (int k = 0; k <= 5; k++) {
             Due.is("tick(0, 6, " + k + ")", c.tick(0, 6, k), 2 * k);
         }

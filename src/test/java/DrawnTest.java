@@ -26,8 +26,8 @@ public final class DrawnTest {
     }
 
     /** A chart whose values are its dots: 4 columns, 2 rows; 0 .. 7 both ways. */
-    private static SignCharts dots(int mark) {
-        SignCharts c = new SignCharts();
+    private static Chart dots(int mark) {
+        Chart c = new Chart();
         c.canvas(4, 2);
         c.scale(0, 0, 0, 7);
         c.scale(1, 0, 0, 7);
@@ -35,7 +35,7 @@ public final class DrawnTest {
         return c;
     }
 
-    private static void due(String what, SignCharts c, int[][] signs) {
+    private static void due(String what, Chart c, int[][] signs) {
         for (int row = 0; row < signs.length; row++) {
             for (int column = 0; column < signs[row].length; column++) {
                 Due.is(what + ": at(" + column + ", " + row + ")", c.at(column, row), signs[row][column]);
@@ -44,7 +44,7 @@ public final class DrawnTest {
     }
 
     private static void cellsThatAreNot() {
-        SignCharts c = dots(0);
+        Chart c = dots(0);
         int[][] wrong = {{-1, 0}, {4, 0}, {0, -1}, {0, 2}, {MIN, 0}, {MAX, 0}, {0, MIN}, {0, MAX}};
         for (int[] w : wrong) {
             Due.is("at(" + w[0] + ", " + w[1] + ")", c.at(w[0], w[1]), BAD);
@@ -62,7 +62,7 @@ public final class DrawnTest {
         int[][] bits = {{64, 4, 2, 1}, {128, 32, 16, 8}};
         for (int x = 0; x < 8; x++) {
             for (int y = 0; y < 8; y++) {
-                SignCharts c = dots(1);
+                Chart c = dots(1);
                 c.point(0, x, y, 0);
                 Due.is("DOT " + x + " " + y, c.at(x / 2, 1 - y / 4), 10240 + bits[x % 2][y % 4]);
                 Due.is("inked()", c.inked(), 1);
@@ -71,7 +71,7 @@ public final class DrawnTest {
     }
 
     private static void spots() {
-        SignCharts c = dots(0);
+        Chart c = dots(0);
         c.point(0, 0, 7, 0);
         c.point(0, 7, 7, 0);
         c.point(0, 8, 7, 0);
@@ -80,7 +80,7 @@ public final class DrawnTest {
     }
 
     private static void line() {
-        SignCharts c = dots(1);
+        Chart c = dots(1);
         c.point(0, 0, 0, 0);
         c.point(0, 7, 3, 0);
         // n 7; (6 k + 7) / 14: 0 0 1 1 2 2 3 3, and x is k.
@@ -90,7 +90,7 @@ public final class DrawnTest {
     }
 
     private static void lineDown() {
-        SignCharts c = dots(1);
+        Chart c = dots(1);
         c.point(0, 7, 3, 0);
         c.point(0, 0, 0, 0);
         // y is 3 + (-6 k + 7) / 14, rounded down: 3 3 2 2 1 1 0 0 at x 7 .. 0.
@@ -108,7 +108,7 @@ public final class DrawnTest {
     }
 
     private static void lineFarFromTheCorner() {
-        SignCharts c = dots(1);
+        Chart c = dots(1);
         c.point(0, 3, 7, 0);
         c.point(0, 7, 6, 0);
         // n 4; y is 7 + (-2 k + 4) / 8, rounded down: 7 7 7 6 6.
@@ -123,7 +123,7 @@ public final class DrawnTest {
     }
 
     private static void lineLinks() {
-        SignCharts c = dots(1);
+        Chart c = dots(1);
         c.point(0, 0, 0, 0);
         c.gap(0);
         c.point(0, 7, 0, 0);
@@ -139,7 +139,7 @@ public final class DrawnTest {
     }
 
     private static void steps() {
-        SignCharts c = dots(2);
+        Chart c = dots(2);
         c.point(0, 1, 1, 0);
         Due.is("without a LINK, at(0, 1)", c.at(0, 1), 10240 + 32);
         c.point(0, 4, 6, 0);
@@ -160,13 +160,13 @@ public final class DrawnTest {
         int[][] due = {{32, 9602}, {32, 9604}, {32, 9606}, {32, 9608},
             {9602, 9608}, {9604, 9608}, {9606, 9608}, {9608, 9608}};
         for (int y = 0; y < 8; y++) {
-            SignCharts c = dots(3);
+            Chart c = dots(3);
             c.point(0, 5, y, 3);
             Due.is("BARS " + y + ", above", c.at(2, 0), due[y][0]);
             Due.is("BARS " + y + ", below", c.at(2, 1), due[y][1]);
             Due.is("BARS " + y + ", count(0, 4)", c.count(0, 4), y / 4 + 1);
         }
-        SignCharts c = dots(3);
+        Chart c = dots(3);
         c.point(0, 4, 6, 0);
         c.point(0, 5, 1, 0);
         Due.is("the most eighths, above", c.at(2, 0), 9606);
@@ -178,7 +178,7 @@ public final class DrawnTest {
     }
 
     private static void barsOnReversed() {
-        SignCharts c = dots(3);
+        Chart c = dots(3);
         c.scale(1, 1, 0, 7);
         c.point(0, 0, 7, 0);
         c.point(0, 2, 2, 0);
@@ -186,7 +186,7 @@ public final class DrawnTest {
     }
 
     private static void ranges() {
-        SignCharts c = dots(4);
+        Chart c = dots(4);
         c.point(0, 0, 3, 0);
         c.point(0, 2, 3, 2);
         c.point(0, 5, 6, 2);
@@ -200,7 +200,7 @@ public final class DrawnTest {
     }
 
     private static void rangesOnReversedAndCut() {
-        SignCharts c = dots(4);
+        Chart c = dots(4);
         c.scale(1, 1, 0, 7);
         c.point(0, 0, 5, 3);
         // PLACES: y 2 at 5, y 5 at 2, y 8 at none.
@@ -219,7 +219,7 @@ public final class DrawnTest {
     }
 
     private static void layers() {
-        SignCharts c = dots(0);
+        Chart c = dots(0);
         c.series(1, 5, 33);
         c.series(3, 4, 33);
         for (int i = 0; i < 3; i++) {
@@ -244,7 +244,7 @@ public final class DrawnTest {
     }
 
     private static void hits() {
-        SignCharts c = dots(1);
+        Chart c = dots(1);
         c.series(0, 5, 33);
         c.point(0, 0, 0, 0);
         c.point(0, 3, 0, 0);
@@ -262,7 +262,7 @@ public final class DrawnTest {
     }
 
     private static void hitsOfAll() {
-        SignCharts c = dots(0);
+        Chart c = dots(0);
         for (int i = 1; i < 6; i++) {
             c.series(i % 5, i == 3 ? 9 : 5, 33);
         }
@@ -279,7 +279,7 @@ public final class DrawnTest {
     }
 
     private static void labelsLieOver() {
-        SignCharts c = dots(0);
+        Chart c = dots(0);
         c.point(0, 0, 0, 0);
         c.label(0, 0, 2);
         c.point(0, 2, 0, 0);
@@ -294,7 +294,7 @@ public final class DrawnTest {
     }
 
     private static void inkedAndDigest() {
-        SignCharts c = dots(0);
+        Chart c = dots(0);
         Due.is("inked()", c.inked(), 0);
         c.point(0, 0, 7, 0);
         c.series(3, 0, 33);
@@ -308,10 +308,11 @@ public final class DrawnTest {
         }
         Due.is("digest()", c.digest(), h);
         c.canvas(40, 16);
+        Asked asked = new Asked(c);
         h = 7;
         for (int row = 0; row < 16; row++) {
             for (int column = 0; column < 40; column++) {
-                h = 31 * h + c.at(column, row);
+                h = 31 * h + asked.ask("at", column, row);
             }
         }
         Due.is("digest() of the greatest", c.digest(), h);
@@ -319,7 +320,7 @@ public final class DrawnTest {
 
     /** Each call that may change what is drawn, after what was drawn has been looked at. */
     private static void whatChangesIsDrawnAnew() {
-        SignCharts c = dots(1);
+        Chart c = dots(1);
         c.point(0, 1, 1, 0);
         Due.is("point", c.at(0, 1), 10240 + 32);
         c.scale(0, 0, 1, 8);
@@ -348,7 +349,7 @@ public final class DrawnTest {
 
     /** Each call that tells what is drawn, right after a change. */
     private static void eachLooksForItself() {
-        SignCharts c = dots(0);
+        Chart c = dots(0);
         long blank = c.digest();
         c.point(0, 0, 0, 0);
         Due.holds("digest", c.digest() != blank);

@@ -19,42 +19,9 @@ final class Due {
         is(what, so ? 1 : 0, 1);
     }
 
-    /** All that an object tells without being changed: refused calls must leave it alike. */
-    static String picture(SignCharts c) {
-        StringBuilder all = new StringBuilder();
-        for (int what = 0; what <= 9; what++) {
-            all.append(c.told(what)).append(' ');
-        }
-        for (int series = 0; series < c.told(0); series++) {
-            for (int what = 0; what <= 4; what++) {
-                all.append(c.count(series, what)).append(' ');
-            }
-            for (int point = 0; point < c.count(series, 0); point++) {
-                for (int what = 0; what <= 4; what++) {
-                    all.append(c.about(series, point, what)).append(' ');
-                }
-            }
-        }
-        for (int label = 0; label < c.told(1); label++) {
-            for (int what = 0; what <= 4; what++) {
-                all.append(c.labelled(label, what)).append(' ');
-            }
-        }
-        for (int v = -2; v <= 12; v++) {
-            all.append(c.place(0, v)).append(' ').append(c.place(1, v)).append(' ');
-        }
-        for (int row = 0; row < c.told(3); row++) {
-            for (int column = 0; column < c.told(2); column++) {
-                all.append(c.shown(column, row)).append(' ');
-                all.append(c.hit(column, row, 0)).append(' ');
-            }
-        }
-        return all.append(c.digest()).toString();
-    }
-
-    static void refused(SignCharts c, String call, long got, long want, String before) {
+    static void refused(Chart c, String call, long got, long want, String before) {
         is(call, got, want);
-        holds(call + " changes nothing", picture(c).equals(before));
+        holds(call + " changes nothing", Picture.of(c).equals(before));
     }
 
     static void end() {

@@ -21,8 +21,8 @@ public final class LabelsLegendTest {
     }
 
     /** SPOTS in cells: x is twice the column, y four times the row from below. */
-    private static SignCharts cells(int columns, int rows) {
-        SignCharts c = new SignCharts();
+    private static Chart cells(int columns, int rows) {
+        Chart c = new Chart();
         c.canvas(columns, rows);
         c.scale(0, 0, 0, 2 * columns - 1);
         c.scale(1, 0, 0, 4 * rows - 1);
@@ -30,17 +30,17 @@ public final class LabelsLegendTest {
         return c;
     }
 
-    private static void spot(SignCharts c, int column, int row) {
+    private static void spot(Chart c, int column, int row) {
         c.point(0, 2 * column, 4 * (c.told(3) - 1 - row), 0);
     }
 
     private static void labelRefused() {
-        SignCharts c = cells(10, 5);
+        Chart c = cells(10, 5);
         spot(c, 5, 2);
         c.gap(0);
         c.point(0, 20, 0, 0);
         c.point(0, 0, 20, 0);
-        String before = Due.picture(c);
+        String before = Picture.of(c);
         int[][] wrong = {{-1, 0, 1}, {1, 0, 1}, {0, -1, 1}, {0, 4, 1}, {0, 0, 0}, {0, 0, 11},
             {MIN, 0, 1}, {MAX, 0, 1}, {0, MIN, 1}, {0, MAX, 1}, {0, 0, MIN}, {0, 0, MAX},
             {0, 1, 0}, {0, 2, 11}};
@@ -54,20 +54,20 @@ public final class LabelsLegendTest {
         }
     }
 
-    private static void placed(SignCharts c, int label, int column, int row) {
+    private static void placed(Chart c, int label, int column, int row) {
         Due.is("labelled(" + label + ", 0)", c.labelled(label, 0), column);
         Due.is("labelled(" + label + ", 1)", c.labelled(label, 1), row);
     }
 
     private static void fourPlaces() {
-        SignCharts c = cells(10, 5);
+        Chart c = cells(10, 5);
         spot(c, 5, 2);
         int[][] due = {{6, 2}, {2, 2}, {5, 1}, {5, 3}};
         for (int way = 0; way < 4; way++) {
             Due.is("label(0, 0, 3), time " + way, c.label(0, 0, 3), way);
             placed(c, way, due[way][0], due[way][1]);
         }
-        String before = Due.picture(c);
+        String before = Picture.of(c);
         Due.refused(c, "label(0, 0, 3), none is FREE", c.label(0, 0, 3), NONE, before);
         Due.refused(c, "label(0, 0, 1), none is FREE", c.label(0, 0, 1), NONE, before);
         int[] signs = {32, 32, 8193, 8193, 8193, 42, 8192, 8192, 8192, 32};
@@ -80,7 +80,7 @@ public final class LabelsLegendTest {
     }
 
     private static void edgesOfTheCanvas() {
-        SignCharts c = cells(10, 5);
+        Chart c = cells(10, 5);
         spot(c, 5, 0);
         spot(c, 0, 4);
         spot(c, 9, 2);
@@ -107,7 +107,7 @@ public final class LabelsLegendTest {
     }
 
     private static void oneBeyondTheEdge() {
-        SignCharts c = cells(10, 5);
+        Chart c = cells(10, 5);
         spot(c, 5, 2);
         Due.is("right, five", c.label(0, 0, 5), 1);
         placed(c, 0, 0, 2);
@@ -122,7 +122,7 @@ public final class LabelsLegendTest {
     }
 
     private static void notOverWhatIsDrawn() {
-        SignCharts c = cells(10, 5);
+        Chart c = cells(10, 5);
         spot(c, 5, 2);
         spot(c, 8, 2);
         c.series(3, 0, 42);
@@ -145,7 +145,7 @@ public final class LabelsLegendTest {
     }
 
     private static void stayWhereTheyAre() {
-        SignCharts c = cells(10, 5);
+        Chart c = cells(10, 5);
         spot(c, 5, 2);
         c.label(0, 0, 3);
         spot(c, 7, 2);
@@ -162,7 +162,7 @@ public final class LabelsLegendTest {
     }
 
     private static void fullOfLabels() {
-        SignCharts c = cells(40, 16);
+        Chart c = cells(40, 16);
         for (int i = 0; i < 11; i++) {
             spot(c, 20, i);
         }
@@ -170,12 +170,12 @@ public final class LabelsLegendTest {
             Due.is("LABEL " + i, c.label(0, i / 2, 1 + i / 2), i % 2);
         }
         Due.is("told(1)", c.told(1), 20);
-        String before = Due.picture(c);
+        String before = Picture.of(c);
         Due.refused(c, "a 21st one", c.label(0, 10, 1), FULL, before);
         Due.refused(c, "a 21st one where none is FREE", c.label(0, 0, 1), FULL, before);
         Due.refused(c, "a 21st one, BAD first", c.label(0, 10, 11), BAD, before);
         c.gap(0);
-        before = Due.picture(c);
+        before = Picture.of(c);
         Due.refused(c, "a 21st one, STATE first", c.label(0, 11, 1), STATE, before);
         Due.is("at(21, 0)", c.at(21, 0), 8192);
         Due.is("at(10, 9)", c.at(10, 9), 8211);
@@ -183,7 +183,7 @@ public final class LabelsLegendTest {
     }
 
     private static void labelled() {
-        SignCharts c = cells(10, 5);
+        Chart c = cells(10, 5);
         Due.is("labelled(0, 0) of none", c.labelled(0, 0), BAD);
         c.series(0, 0, 43);
         c.gap(1);
@@ -201,7 +201,7 @@ public final class LabelsLegendTest {
     }
 
     private static void legendCorners() {
-        SignCharts c = cells(10, 5);
+        Chart c = cells(10, 5);
         Due.is("an empty one", c.legend(3, 2), 0);
         spot(c, 2, 1);
         Due.is("above left is drawn", c.legend(3, 2), 1);
@@ -219,13 +219,13 @@ public final class LabelsLegendTest {
         Due.is("one here, two there", c.legend(3, 2), 3);
         Due.is("the whole", c.legend(10, 5), 0);
         Due.is("one CELL", c.legend(1, 1), 0);
-        String before = Due.picture(c);
+        String before = Picture.of(c);
         c.legend(3, 2);
-        Due.holds("it is only told", Due.picture(c).equals(before));
+        Due.holds("it is only told", Picture.of(c).equals(before));
     }
 
     private static void legendCountsLabels() {
-        SignCharts c = cells(10, 5);
+        Chart c = cells(10, 5);
         spot(c, 4, 0);
         c.point(0, 10, 16, 0);
         Due.is("legend(4, 1)", c.legend(4, 1), 0);
@@ -244,7 +244,7 @@ public final class LabelsLegendTest {
     }
 
     private static void legendRefused() {
-        SignCharts c = cells(10, 5);
+        Chart c = cells(10, 5);
         int[][] wrong = {{0, 1}, {1, 0}, {11, 1}, {1, 6}, {-1, 1}, {1, -1}, {MIN, 1}, {MAX, 1},
             {1, MIN}, {1, MAX}};
         for (int[] w : wrong) {
@@ -253,7 +253,7 @@ public final class LabelsLegendTest {
     }
 
     private static void told() {
-        SignCharts c = new SignCharts();
+        Chart c = new Chart();
         c.canvas(11, 7);
         c.scale(0, 1, -3, 55);
         c.scale(1, 0, -8, 77);

@@ -9,7 +9,7 @@ public final class NewObjectTest {
     }
 
     private static void aNewObject() {
-        SignCharts c = new SignCharts();
+        Chart c = new Chart();
         int[] told = {0, 0, 20, 8, 0, 0, 0, 0, 10, 10};
         for (int what = 0; what < told.length; what++) {
             Due.is("told(" + what + ")", c.told(what), told[what]);
@@ -28,13 +28,13 @@ public final class NewObjectTest {
     }
 
     private static void objectsShareNothing() {
-        SignCharts a = new SignCharts();
-        SignCharts b = new SignCharts();
+        Chart a = new Chart();
+        Chart b = new Chart();
         a.canvas(4, 2);
         a.scale(0, 1, -5, 5);
         a.series(0, 0, 33);
         a.point(0, 0, 0, 0);
-        Due.holds("a second object is new", Due.picture(b).equals(Due.picture(new SignCharts())));
+        Due.holds("a second object is new", Picture.of(b).equals(Picture.of(new Chart())));
     }
 
     private static void constants() {

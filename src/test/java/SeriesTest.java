@@ -19,8 +19,8 @@ public final class SeriesTest {
     }
 
     private static void series() {
-        SignCharts c = new SignCharts();
-        String before = Due.picture(c);
+        Chart c = new Chart();
+        String before = Picture.of(c);
         int[][] wrong = {{-1, 0, 33}, {5, 0, 33}, {0, -1, 33}, {0, 10, 33}, {0, 0, 32}, {0, 0, 127},
             {MIN, 0, 33}, {MAX, 0, 33}, {0, MIN, 33}, {0, MAX, 33}, {0, 0, MIN}, {0, 0, MAX}};
         for (int[] w : wrong) {
@@ -32,16 +32,16 @@ public final class SeriesTest {
         }
         Due.is("series(0, 0, 33)", c.series(0, 0, 33), 5);
         Due.is("told(0)", c.told(0), 6);
-        before = Due.picture(c);
+        before = Picture.of(c);
         Due.refused(c, "a seventh one", c.series(0, 0, 33), FULL, before);
         Due.refused(c, "a seventh one, BAD first", c.series(0, 0, 32), BAD, before);
     }
 
     private static void style() {
-        SignCharts c = new SignCharts();
+        Chart c = new Chart();
         c.series(1, 2, 40);
         c.point(0, 0, 0, 0);
-        String before = Due.picture(c);
+        String before = Picture.of(c);
         int[][] wrong = {{-1, 0, 0}, {1, 0, 0}, {0, -1, 0}, {0, 3, 40}, {0, 0, -1}, {0, 0, 5},
             {0, 1, -1}, {0, 1, 10}, {0, 2, 32}, {0, 2, 127}, {MAX, 0, 0}, {MIN, 0, 0},
             {0, MIN, 0}, {0, MAX, 0}, {0, 0, MIN}, {0, 1, MAX}, {0, 2, MAX}};
@@ -63,9 +63,9 @@ public final class SeriesTest {
     }
 
     private static void point() {
-        SignCharts c = new SignCharts();
+        Chart c = new Chart();
         c.series(0, 0, 33);
-        String before = Due.picture(c);
+        String before = Picture.of(c);
         int[][] wrong = {{-1, 0, 0, 0}, {1, 0, 0, 0}, {0, 1000001, 0, 0}, {0, -1000001, 0, 0},
             {0, 0, 1000001, 0}, {0, 0, -1000001, 0}, {0, 0, 0, -1}, {0, 0, 0, 1000001},
             {MIN, 0, 0, 0}, {MAX, 0, 0, 0}, {0, MIN, 0, 0}, {0, 0, MAX, 0}, {0, 0, 0, MIN},
@@ -79,7 +79,7 @@ public final class SeriesTest {
         for (int i = 2; i < 24; i++) {
             Due.is("point " + i, c.point(0, i, i, i), i);
         }
-        before = Due.picture(c);
+        before = Picture.of(c);
         Due.refused(c, "a 25th one", c.point(0, 0, 0, 0), FULL, before);
         Due.refused(c, "a 25th one, BAD first", c.point(0, 0, 0, -1), BAD, before);
         Due.is("about(0, 0, 0)", c.about(0, 0, 0), -1000000);
@@ -90,18 +90,18 @@ public final class SeriesTest {
     }
 
     private static void gap() {
-        SignCharts c = new SignCharts();
-        String before = Due.picture(c);
+        Chart c = new Chart();
+        String before = Picture.of(c);
         Due.refused(c, "gap(0) of no SERIES", c.gap(0), BAD, before);
         c.series(1, 0, 33);
-        before = Due.picture(c);
+        before = Picture.of(c);
         Due.refused(c, "gap(-1)", c.gap(-1), BAD, before);
         Due.refused(c, "gap(1)", c.gap(1), BAD, before);
         Due.refused(c, "gap(MAX)", c.gap(MAX), BAD, before);
         for (int i = 0; i < 24; i++) {
             Due.is("GAP " + i, c.gap(0), i);
         }
-        before = Due.picture(c);
+        before = Picture.of(c);
         Due.refused(c, "a 25th one", c.gap(0), FULL, before);
         Due.refused(c, "a POINT after 24 GAPS", c.point(0, 0, 0, 0), FULL, before);
         Due.is("inked()", c.inked(), 0);
@@ -109,11 +109,11 @@ public final class SeriesTest {
     }
 
     private static void drop() {
-        SignCharts c = new SignCharts();
-        String before = Due.picture(c);
+        Chart c = new Chart();
+        String before = Picture.of(c);
         Due.refused(c, "drop(0) of no SERIES", c.drop(0), BAD, before);
         c.series(0, 0, 33);
-        before = Due.picture(c);
+        before = Picture.of(c);
         Due.refused(c, "drop(0) of an empty one", c.drop(0), STATE, before);
         Due.refused(c, "drop(-1)", c.drop(-1), BAD, before);
         Due.refused(c, "drop(1)", c.drop(1), BAD, before);
@@ -135,7 +135,7 @@ public final class SeriesTest {
     }
 
     private static void dropTakesLabels() {
-        SignCharts c = new SignCharts();
+        Chart c = new Chart();
         c.series(0, 0, 33);
         c.series(0, 0, 34);
         c.point(0, 0, 0, 0);
@@ -167,7 +167,7 @@ public final class SeriesTest {
     }
 
     private static void about() {
-        SignCharts c = new SignCharts();
+        Chart c = new Chart();
         c.series(0, 0, 33);
         c.point(0, 5, 10, 7);
         c.gap(0);
@@ -193,7 +193,7 @@ public final class SeriesTest {
     }
 
     private static void count() {
-        SignCharts c = new SignCharts();
+        Chart c = new Chart();
         c.series(0, 0, 33);
         for (int what = 0; what < 5; what++) {
             Due.is("count(0, " + what + ") of an empty one", c.count(0, what), 0);
@@ -223,7 +223,7 @@ public final class SeriesTest {
     }
 
     private static void runsAtTheEnds() {
-        SignCharts c = new SignCharts();
+        Chart c = new Chart();
         c.series(0, 0, 33);
         c.point(0, 0, 0, 0);
         Due.is("count(0, 2) of one POINT", c.count(0, 2), 1);
@@ -236,7 +236,7 @@ public final class SeriesTest {
     }
 
     private static void five() {
-        SignCharts c = new SignCharts();
+        Chart c = new Chart();
         c.series(0, 0, 33);
         for (int k = 0; k < 5; k++) {
             Due.is("five(0, " + k + ") of none", c.five(0, k), NO);
@@ -262,7 +262,7 @@ public final class SeriesTest {
     }
 
     private static void fiveOfFew() {
-        SignCharts c = new SignCharts();
+        Chart c = new Chart();
         c.series(0, 0, 33);
         c.point(0, 0, 8, 0);
         for (int k = 0; k < 5; k++) {
