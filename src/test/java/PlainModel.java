@@ -36,6 +36,28 @@ final class PlainModel {
     private final List<Ser> sers = new ArrayList<>();
     private List<int[]> labels = new ArrayList<>();
 
+    /** Another one in this state; points never change, so both may have the same ones. */
+    PlainModel copy() {
+        PlainModel like = new PlainModel();
+        like.columns = columns;
+        like.rows = rows;
+        for (int axis = 0; axis <= 1; axis++) {
+            like.kind[axis] = kind[axis];
+            like.low[axis] = low[axis];
+            like.high[axis] = high[axis];
+            like.from[axis] = from[axis];
+            like.to[axis] = to[axis];
+        }
+        for (Ser s : sers) {
+            Ser one = new Ser();
+            one.style = s.style.clone();
+            one.pts.addAll(s.pts);
+            like.sers.add(one);
+        }
+        like.labels.addAll(labels);
+        return like;
+    }
+
     private static boolean in(long v, long a, long b) {
         return a <= v && v <= b;
     }
